@@ -223,6 +223,18 @@ public final class BeatsTest {
         due("nights so far", x.count(14), 6);
     }
 
+    private static void promise9FirstAndLast() {
+        CoughBids x = new CoughBids();
+        x.bidder(5, 7, 0, 1);
+        x.bidder(5, 6, 0, 1);
+        x.bidder(5, 5, 0, 1);
+        x.catches(1, 3);
+        due("both beside it", x.night(), 3);
+        due("the first", x.bidderOf(0, 4), 1);
+        due("itself", x.bidderOf(1, 4), 2);
+        due("the last", x.bidderOf(2, 4), 1);
+    }
+
     private static void promise9Limit() {
         CoughBids x = new CoughBids();
         Due.type(x, "n;n;n;n;n;n;n;n;n;n;n;n;n;n;n;n;n;n;n;n;n;n;n;n;n;n;n;n;n;n;");
@@ -280,6 +292,26 @@ public final class BeatsTest {
         due("coins of the past are not told", x.ifBeats(4, 3), 0);
         due("nor bids of the past", x.ifBeats(4, 0), 0);
         due("nor lots of the past", x.ifBeats(4, 2), 0);
+    }
+
+    private static void promise17Doubts() {
+        CoughBids x = new CoughBids();
+        x.bidder(0, 0, 100, 3);
+        x.bidder(0, 2, 100, 9);
+        x.catches(0, 4);
+        x.lot(10, 1);
+        x.putUp();
+        x.cough(0);
+        x.cough(1);
+        due("a doubt already", x.count(12), 1);
+        due("one at 0", x.ifBeats(1, 1), 1);
+        due("one alone", x.ifBeats(50, 1), 1);
+        x.cough(0);
+        x.cough(1);
+        due("withdrawn in the first", x.ifBeats(50, 1), 1);
+        due("bids in it", x.ifBeats(50, 0), 1);
+        due("not sold", x.ifBeats(50, 2), 0);
+        due("behind a beat", x.goneIn(), 1);
     }
 
     private static void promise17BeyondTheLimit() {
@@ -392,8 +424,10 @@ public final class BeatsTest {
         promise8ColdBids();
         promise8Withdrawn();
         promise9Night();
+        promise9FirstAndLast();
         promise9Limit();
         promise17IfBeats();
+        promise17Doubts();
         promise17BeyondTheLimit();
         promise18GoneIn();
         promise18Within200();

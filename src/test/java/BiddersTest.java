@@ -64,6 +64,34 @@ public final class BiddersTest {
         due("still 12", x.count(1), 12);
     }
 
+    /** A bidder comes anew in the place of one who was undone. */
+    private static void promise2FreshBidders() {
+        CoughBids x = new CoughBids();
+        int[] fresh = {0, 0, 500, 5, 0, 0, 105, 0, 0, 0, 0};
+        Due.type(x, "p0,0,9,5;m0,1;l5,1;u;c0;b4;");
+        for (int i = 0; i < 20; i++) {
+            due("all at once", x.play(), 6);
+            x.catches(0, 4);
+            x.undo();
+            x.undo();
+            if (i % 2 == 0) {
+                x.night();
+            }
+            due("comes anew", x.bidder(0, 0, 500, 5), 0);
+            for (int what = 0; what <= 10; what++) {
+                due("anew: bidderOf(0, " + what + ")", x.bidderOf(0, what), fresh[what]);
+            }
+            x.catches(0, 3);
+            x.undo();
+            due("purses", x.count(9), 0);
+            x.undo();
+            due("nobody is left", x.count(1), 0);
+            if (i % 2 == 0) {
+                x.undo();
+            }
+        }
+    }
+
     private static void promise3Catches() {
         CoughBids x = new CoughBids();
         due("catches without bidders", x.catches(0, 1), INVALID);
@@ -152,6 +180,10 @@ public final class BiddersTest {
         for (int what = 0; what <= 10; what++) {
             due("after a sale: bidderOf(1, " + what + ")", x.bidderOf(1, what), after[what]);
         }
+        x.night();
+        for (int what = 0; what <= 10; what++) {
+            due("and a night: bidderOf(1, " + what + ")", x.bidderOf(1, what), after[what]);
+        }
         due("bidderOf(0, 11)", x.bidderOf(0, 11), INVALID);
         due("bidderOf(0, -1)", x.bidderOf(0, -1), INVALID);
         due("bidderOf(2, 0)", x.bidderOf(2, 0), INVALID);
@@ -203,6 +235,7 @@ public final class BiddersTest {
         constants();
         promise1NewObject();
         promise2Bidder();
+        promise2FreshBidders();
         promise3Catches();
         promise4Muffle();
         promise10Set();

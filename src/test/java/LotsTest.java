@@ -126,6 +126,10 @@ public final class LotsTest {
         CoughBids x = new CoughBids();
         due("up(9), none up", x.up(9), INVALID);
         due("up(0), none up", x.up(0), CoughBids.NOT_POSSIBLE);
+        due("up(8), none up", x.up(8), CoughBids.NOT_POSSIBLE);
+        for (int extreme : EXTREMES) {
+            due("up extreme, none up", x.up(extreme), INVALID);
+        }
         x.bidder(0, 0, 100, 5);
         x.bidder(0, 1, 100, 2);
         x.catches(1, 5);
@@ -152,6 +156,34 @@ public final class LotsTest {
         due("the latest bid is no cough for a cold", x.up(8), 0);
         for (int extreme : EXTREMES) {
             due("up extreme", x.up(extreme), INVALID);
+        }
+    }
+
+    /** Lots come anew, whatever the ones before them went through, undone changes among them. */
+    private static void promise13FreshLots() {
+        CoughBids x = new CoughBids();
+        x.bidder(0, 0, 999, 2);
+        x.bidder(0, 2, 999, 9);
+        x.catches(0, 5);
+        x.set(1, 9);
+        int[] fresh = {3, 2, NOT_FOUND, NOT_FOUND, 0, 0, 3, 0, 0};
+        for (int i = 0; i < 24; i++) {
+            x.lot(3, 2);
+            x.putUp();
+            for (int what = 0; what <= 8; what++) {
+                due("fresh: up(" + what + ")", x.up(what), fresh[what]);
+            }
+            x.beats(1);
+            due("no bid came ahead of it", x.up(5), x.up(7) == 0 ? 1 : 0);
+            x.cough(1);
+            x.cough(0);
+            x.beats(9);
+            if (i % 2 == 0) {
+                x.undo();
+                x.undo();
+                x.undo();
+                x.beats(50);
+            }
         }
     }
 
@@ -256,6 +288,7 @@ public final class LotsTest {
         promise7Cough();
         promise7Doubts();
         promise13Up();
+        promise13FreshLots();
         promise14Waiting();
         promise15Book();
         promise16Why();

@@ -240,12 +240,34 @@ public final class RandomRunsTest {
         run();
     }
 
+    /** So many lots by plays that all that is kept of lots is used again. */
+    private void runPlays() {
+        begin();
+        call(8, 1, 1 + random.nextInt(3));
+        type("l4,1;u;c0;c1;c0;b1;c2;b50;l5,2;u;c1;b50;l6,3;u;b1;c3;b50;");
+        for (int i = 0; i < 24; i++) {
+            call(26);
+            call(random.nextInt(2) == 0 ? 7 : 22);
+            call(3, 1 + random.nextInt(9), 1 + random.nextInt(3));
+            call(4);
+            for (int what = 0; what <= 8; what++) {
+                call(11, what);
+            }
+            call(6, 50);
+            call(13, 0, random.nextInt(5));
+        }
+        run();
+    }
+
     public static void main(String[] args) {
         for (int seed = 0; seed < 3000; seed++) {
             new RandomRunsTest(seed).run();
         }
         for (int seed = 3000; seed < 3200; seed++) {
             new RandomRunsTest(seed).runLong();
+        }
+        for (int seed = 3200; seed < 3600; seed++) {
+            new RandomRunsTest(seed).runPlays();
         }
         Due.end("RandomRunsTest");
     }
