@@ -91,7 +91,7 @@ public final class RandomRunsTest {
         }
         boolean ofBidder = call == 1 || call == 2 || call == 5 || call == 9 || call == 14;
         if (ofBidder && random.nextInt(10) > 0) {
-            of[0] = random.nextInt(Math.max(1, program.count(1)));
+            of[0] = random.nextInt(Math.max(1, model.answer(21, new int[] {1})));
         }
         if (call == 6 && random.nextInt(4) > 0) {
             of[0] = 1 + random.nextInt(4);
@@ -160,7 +160,7 @@ public final class RandomRunsTest {
         for (int what = 0; what <= 8; what++) {
             call(11, what);
         }
-        for (int number = 0; number < program.count(1); number++) {
+        for (int number = 0; number < model.answer(21, new int[] {1}); number++) {
             for (int what = 0; what <= 10; what++) {
                 call(9, number, what);
             }
