@@ -3,10 +3,6 @@ import java.util.Random;
 
 /** Runs of calls, chosen by seeds that stay the same, against the model: each answer must agree. */
 public final class RandomRunsTest {
-    private static final String[] NAMES = {"bidder", "catches", "muffle", "lot", "putUp", "cough",
-        "beats", "night", "set", "bidderOf", "at", "up", "waiting", "book", "why", "ifBeats",
-        "goneIn", "coughing", "loudest", "ifNights", "mean", "count", "undo", "type", "clearText",
-        "fault", "play"};
     /** For each call what is in range for its arguments: least and most by turns. */
     private static final int[][] RANGES = {{0, 5, 0, 7, 0, 999, 1, 9}, {0, 11, 0, 5}, {0, 11, 0, 5},
         {1, 99, 1, 20}, {}, {0, 11}, {1, 50}, {}, {0, 2, 1, 9}, {0, 11, 0, 10}, {0, 5, 0, 7}, {0, 8},
@@ -27,45 +23,14 @@ public final class RandomRunsTest {
         this.random = new Random(seed);
     }
 
-    private int answer(int call, int[] of) {
-        switch (call) {
-            case 0: return program.bidder(of[0], of[1], of[2], of[3]);
-            case 1: return program.catches(of[0], of[1]);
-            case 2: return program.muffle(of[0], of[1]);
-            case 3: return program.lot(of[0], of[1]);
-            case 4: return program.putUp();
-            case 5: return program.cough(of[0]);
-            case 6: return program.beats(of[0]);
-            case 7: return program.night();
-            case 8: return program.set(of[0], of[1]);
-            case 9: return program.bidderOf(of[0], of[1]);
-            case 10: return program.at(of[0], of[1]);
-            case 11: return program.up(of[0]);
-            case 12: return program.waiting(of[0], of[1]);
-            case 13: return program.book(of[0], of[1]);
-            case 14: return program.why(of[0]);
-            case 15: return program.ifBeats(of[0], of[1]);
-            case 16: return program.goneIn();
-            case 17: return program.coughing();
-            case 18: return program.loudest();
-            case 19: return program.ifNights(of[0]);
-            case 20: return program.mean();
-            case 21: return program.count(of[0]);
-            case 22: return program.undo();
-            case 23: return program.type(of[0]);
-            case 24: return program.clearText();
-            case 25: return program.fault(of[0]);
-            default: return program.play();
-        }
-    }
-
     private void call(int call, int... of) {
         if (calls == MOST_CALLS) {
             return;
         }
         calls++;
-        String told = "seed " + seed + ", call " + calls + ": " + NAMES[call] + Arrays.toString(of);
-        Due.due(told, answer(call, of), model.answer(call, of));
+        String name = Calls.NAMES.get(call);
+        String told = "seed " + seed + ", call " + calls + ": " + name + Arrays.toString(of);
+        Due.due(told, Calls.make(program, call, of), model.answer(call, of));
     }
 
     /** A number from the range, now and then at its ends or beyond them. */
